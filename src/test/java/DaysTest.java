@@ -7,6 +7,7 @@ public final class DaysTest {
         fromBelow();
         byTurns();
         likeHeights();
+        manyHeights();
         runningOver();
         leaking();
         nobodys();
@@ -73,6 +74,17 @@ public final class DaysTest {
             x.law(law);
             gots(x, 0, 5, 3, 0);
         }
+    }
+
+    private static void manyHeights() {
+        // Two inches lie between any two taps, and each needs three pails: another order would show.
+        BarrelTaps x = Check.yard("y201;f331;f931;f131;f731;f531");
+        x.begin(12);
+        gots(x, 0, 2, 3, 2, 2, 2);
+        levels(x, 12, 1);
+        x.law(1);
+        gots(x, 0, 3, 0, 3, 0, 1);
+        levels(x, 12, 5);
     }
 
     private static void runningOver() {

@@ -8,6 +8,7 @@ public final class NeedsTest {
         bestLaws();
         highestTaps();
         worstShares();
+        tapsOfAnOlderText();
         refusals();
         check.end();
     }
@@ -111,10 +112,42 @@ public final class NeedsTest {
         worst(x, 1, 1, 4);
         x.begin(0);
         worst(x, 10, 0, 1);
+        BarrelTaps z = Check.yard("y301;f931;f271;f031");
+        z.begin(12);
+        worst(z, 1, 2, 3);  // 3 of 3, 7 of 7, 2 of 3
+        z.begin(10);
+        worst(z, 1, 1, 3);  // 1 of 3, 7 of 7, 2 of 3
+        z.rain(1, 9);
+        worst(z, 2, 1, 6);  // 1 of 6, 14 of 14, 4 of 6
+        z.begin(12);
+        z.bore(1, 5);
+        worst(z, 1, 4, 7);  // 3 of 3, 4 of 7, 3 of 3
+        z.bore(1, 6);
+        worst(z, 2, 3, 7);  // 6 of 6, 6 of 14, 6 of 6
         BarrelTaps y = Check.yard("y201;g021");
         y.begin(20);
         worst(y, 1, 3, 2);
         worst(y, 7, 10, 7);
+    }
+
+    /** What an earlier, larger yard had must not be asked any more. */
+    private static void tapsOfAnOlderText() {
+        BarrelTaps x = Check.yard("y991;f991;f991;f991;f991;f991;f991");
+        Check.read(x, "y201;f251");
+        x.begin(7);
+        check.due("can", x.can(1), 1);
+        check.due("start", x.start(1), 7);
+        check.due("best", x.best(1, 1), 1);
+        check.due("nobody", x.nobody(0), 2);
+        check.due("thief", x.thief(0, 1), 0);
+        check.due("highest", x.highest(0, 1), 2);
+        worst(x, 1, 1, 1);
+        worst(x, 2, 1, 2);
+        x.law(2);
+        check.due("level", x.level(1), 2);
+        Check.read(x, "y201;f251;f991");
+        x.begin(7);
+        worst(x, 1, 0, 1);
     }
 
     private static void refusals() {

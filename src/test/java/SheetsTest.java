@@ -12,6 +12,7 @@ public final class SheetsTest {
         tellings();
         kinds();
         faultsLast();
+        refusalsClearFaults();
         manys();
         check.end();
     }
@@ -36,8 +37,10 @@ public final class SheetsTest {
         faulty(x, "the row is as it was", x.cell(3, 59, 2), 7, 0);
         faulty(x, "a new row", x.sheet(3, 2, 60), 1, 0);
         faulty(x, "has 0 at first", x.cell(3, 59, 2), 0, 0);
+        x.put(3, 0, 8);
         x.put(3, 5, 9);
         x.sheet(3, 2, 3);
+        faulty(x, "its first cell", x.cell(3, 0, 2), 0, 0);
         faulty(x, "a shorter row", x.cell(3, 5, 2), Long.MIN_VALUE, 3);
         x.sheet(3, 2, 6);
         faulty(x, "a longer row", x.cell(3, 5, 2), 0, 0);
@@ -227,6 +230,35 @@ public final class SheetsTest {
         check.due("fault behind calls that name none", x.fault(), 2);
         x.copy(0, 0, 0, 0, 0);
         check.due("fault behind one that came to none", x.fault(), 0);
+    }
+
+    /** A refused call that names a fault leaves none behind it, whatever was ahead. */
+    private static void refusalsClearFaults() {
+        BarrelTaps x = Check.yard("y993;f019");
+        x.sheet(1, 0, -1);
+        faulty(x, "sheet UNKNOWN", x.sheet(4, 0, 0), -1, 0);
+        x.sheet(1, 0, -1);
+        faulty(x, "sheet OUTSIDE", x.sheet(0, 0, 61), -2, 0);
+        x.sheet(1, 0, -1);
+        faulty(x, "put UNKNOWN", x.put(4, 0, 0), -1, 0);
+        x.sheet(1, 0, -1);
+        faulty(x, "put", x.put(0, 0, 0), 1, 0);
+        x.sheet(1, 0, -1);
+        faulty(x, "sheet", x.sheet(2, 0, 0), 1, 0);
+        x.sheet(1, 0, -1);
+        faulty(x, "cell UNKNOWN", x.cell(4, 0, 0), Long.MIN_VALUE, 0);
+        x.sheet(1, 0, -1);
+        faulty(x, "cell OUTSIDE", x.cell(0, 0, 3), Long.MIN_VALUE, 0);
+        x.sheet(1, 0, -1);
+        faulty(x, "copy UNKNOWN", x.copy(4, 0, 0, 0, 0), -1, 0);
+        x.sheet(1, 0, -1);
+        faulty(x, "as OUTSIDE", x.as(0, 3), -2, 0);
+        x.sheet(1, 0, -1);
+        faulty(x, "yard UNKNOWN", x.yard(4, 0, 0, 0), -1, 0);
+        x.sheet(1, 0, -1);
+        faulty(x, "yard OUTSIDE", x.yard(0, 3, 0, 0), -2, 0);
+        x.sheet(1, 0, -1);
+        faulty(x, "yard's FIRST FAULT", x.yard(0, 0, 0, 0), -100, 0);
     }
 
     private static void manys() {
