@@ -108,6 +108,9 @@ public final class DaysTest {
         levels(x, 20, 15, 11, 7, 6, 6, 6);
         x.leak(0, 9);
         levels(x, 20, 10, 1, 0, 0);
+        x.begin(10);
+        x.leak(6, 5);
+        check.due("the water is beneath the leak", x.level(10), 10);
     }
 
     private static void nobodys() {

@@ -132,7 +132,7 @@ public final class NeedsTest {
 
     /** What an earlier, larger yard had must not be asked any more. */
     private static void tapsOfAnOlderText() {
-        BarrelTaps x = Check.yard("y991;f991;f991;f991;f991;f991;f991");
+        BarrelTaps x = Check.yard("y991;f091;f091;f091;f091;f091;f091");
         Check.read(x, "y201;f251");
         x.begin(7);
         check.due("can", x.can(1), 1);
