@@ -12,6 +12,7 @@ public final class DaysTest {
         leaking();
         nobodys();
         dryDays();
+        sixTapsOnTheLastDay();
         refusals();
         check.end();
     }
@@ -143,6 +144,21 @@ public final class DaysTest {
         check.due("its need on the last day", x.dry(1), -9);
         x.rain(8, 0);
         check.due("on the last day", x.dry(1), 9);
+    }
+
+    private static void sixTapsOnTheLastDay() {
+        for (int law = 0; law <= 2; law++) {
+            BarrelTaps x = Check.yard("y991;f011;f021;f031;f041;f051;f061");
+            x.law(law);
+            x.rain(9, 30);
+            gots(x, 8, 0, 0, 0, 0, 0, 0);
+            gots(x, 9, 1, 2, 3, 4, 5, 6);
+            check.due("level(9)", x.level(9), 0);
+            check.due("level(10)", x.level(10), 9);
+            check.due("over(9)", x.over(9), 0);
+            check.due("nobody(10)", x.nobody(10), 0);
+            check.due("dry(5)", x.dry(5), 0);
+        }
     }
 
     private static void refusals() {

@@ -9,6 +9,7 @@ public final class MarksTest {
         whichRains();
         rainsOfLaterDays();
         thieves();
+        eightMarks();
         refusals();
         check.end();
     }
@@ -185,6 +186,25 @@ public final class MarksTest {
         BarrelTaps six = Check.yard("y991;f011;f111;f211;f311;f411;f911");
         six.begin(99);
         check.due("six taps", six.thief(0, 9), 63);
+    }
+
+    private static void eightMarks() {
+        BarrelTaps x = Check.yard("y201;f051");
+        x.begin(20);
+        for (int k = 0; k < 8; k++) {
+            x.mark(2, 7);
+        }
+        check.due("MARKS", x.many(4), 8);
+        check.due("a thief by all of them", x.thief(1, 3), 1);
+        check.due("no thief by any of them", x.thief(1, 2), 0);
+        rains(x, 0);
+        x.begin(10);
+        rains(x, 0, 7);
+        x.back(1);
+        x.mark(10, 1);
+        rains(x, 0);
+        check.due("no thief by the last of them", x.thief(1, 3), 0);
+        rains(x, 9);
     }
 
     private static void refusals() {
