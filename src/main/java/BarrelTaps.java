@@ -290,18 +290,8 @@ public final class BarrelTaps {
         if (isNot(0, a, MOST_RAIN) || isNot(0, b, MOST_RAIN)) {
             return LOST;
         }
-        int rows = 1 << n;
-        int dryRows = 0;
         days.startWith(yard.firstWater, yard.rule);
-        for (int row = 0; row < rows; row++) {
-            for (int day = 0; day < n; day++) {
-                days.passDay(day, (row >> day & 1) == 0 ? a : b);
-            }
-            if (days.firstDry(f, n) != NONE) {
-                dryRows++;
-            }
-        }
-        return inLeastTerms(dryRows, rows, which);
+        return inLeastTerms(dryRows(f, n, a, b, 0), 1 << n, which);
     }
 
     public int mark(int day, int v) {
@@ -337,14 +327,19 @@ public final class BarrelTaps {
         }
         passAsTold(day);
         int found = 0;
+        int lastLevel = -1;
+        boolean fits = false;
         for (int rainfall = 0; rainfall <= MOST_RAIN; rainfall++) {
             days.passDay(day, rainfall);
-            if (marksHoldBehind(day)) {
-                if (found == k) {
-                    return rainfall;
-                }
-                found++;
+            // All that follows hangs on the level alone, and many rains leave the same one.
+            if (days.levels[day + 1] != lastLevel) {
+                lastLevel = days.levels[day + 1];
+                fits = marksHoldBehind(day);
             }
+            if (fits && found == k) {
+                return rainfall;
+            }
+            found += fits ? 1 : 0;
         }
         return k == -1 ? found : NONE;
     }
@@ -556,6 +551,19 @@ public final class BarrelTaps {
         return true;
     }
 
+    /** Of all rows of rains a, b on days day .. n less 1, those by which one is dry that was not dry before. */
+    private int dryRows(int f, int n, int a, int b, int day) {
+        if (day >= n) {
+            return 0;
+        }
+        int dry = 0;
+        for (int sort = 0; sort < 2; sort++) {
+            days.passDay(day, sort == 0 ? a : b);
+            dry += days.isDry(f, day) ? 1 << (n - 1 - day) : dryRows(f, n, a, b, day + 1);
+        }
+        return dry;
+    }
+
     private static long inLeastTerms(int upper, int lower, int which) {
         int common = lower;
         int rest = upper;
@@ -744,7 +752,7 @@ public final class BarrelTaps {
             return all;
         }
 
-        private boolean isDry(int f, int day) {
+        boolean isDry(int f, int day) {
             return drawnBy(f, day) < yard.taps[f].need;
         }
 

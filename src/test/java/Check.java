@@ -1,8 +1,10 @@
 /** What the tests share: counting wrong answers, and making yards out of texts. */
 final class Check {
     private final String test;
+    private String sentence = "";
     private int calls = 0;
     private int wrong = 0;
+    private int callsBefore = 0;
 
     Check(String test) {
         this.test = test;
@@ -12,7 +14,7 @@ final class Check {
         calls++;
         if (got != want) {
             wrong++;
-            System.out.println(test + ": " + call + " answered " + got + ", due is " + want);
+            System.out.println(test + sentence + ": " + call + " answered " + got + ", due is " + want);
         }
     }
 
@@ -20,7 +22,26 @@ final class Check {
         due(what, so ? 1 : 0, 1);
     }
 
+    void same(String what, String got, String want) {
+        holds(what + ": " + got + ", due is " + want, got.equals(want));
+    }
+
+    /** What follows tests this sentence of the document; a sentence that nothing tests is a fault of the test. */
+    void says(String ofDocument) {
+        endSentence();
+        sentence = " (" + ofDocument + ")";
+        callsBefore = calls;
+    }
+
+    private void endSentence() {
+        if (!sentence.isEmpty() && calls == callsBefore) {
+            wrong++;
+            System.out.println(test + ": nothing tests" + sentence);
+        }
+    }
+
     void end() {
+        endSentence();
         System.out.println(test + ": " + calls + " answers, " + wrong + " wrong");
         if (wrong != 0 || calls == 0) {
             System.exit(1);
