@@ -245,6 +245,15 @@ public final class MarksEdgeTest {
         x.mark(1, 4);
         rainsAre("the least: 0", x, 0, 0, 0);
         x.back(1);
+        x.mark(1, 9);
+        rainsAre("the LEVEL stays as it was", x, 0, 5, 5);
+        x.back(1);
+        x.mark(1, 8);
+        rainsAre("it sinks by a pail", x, 0, 4, 4);
+        x.back(1);
+        x.mark(1, 10);
+        rainsAre("it rises by a pail", x, 0, 6, 6);
+        x.back(1);
         x.mark(1, 44);
         rainsAre("one", x, 0, 40, 40);
         x.back(1);

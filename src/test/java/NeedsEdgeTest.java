@@ -5,6 +5,7 @@ public final class NeedsEdgeTest {
     public static void main(String[] args) {
         canOnNoDayAndOnTen();
         canFromAboveJustNeeds();
+        canOfSixAndOfOne();
         startThatIsNone();
         startThatIsLeastAndGreatest();
         startIsLeast();
@@ -91,6 +92,27 @@ public final class NeedsEdgeTest {
         check.due("4, 2, 3", leaky.can(2), 0);
         leaky.leak(5, 2);
         check.due("the LEAK is above what is left", leaky.can(2), 1);
+    }
+
+    private static void canOfSixAndOfOne() {
+        check.says("CAN: whether each FAMILY can draw just its NEED");
+        BarrelTaps x = yard("y991;f091;f091;f091;f091;f091;f091", 54);
+        check.due("six", x.can(1), 1);
+        check.due("START of six", x.start(1), 54);
+        x.begin(53);
+        check.due("the last one can not", x.can(1), 0);
+        x.bore(0, 1);
+        x.begin(54);
+        check.due("the first one can, from above", x.can(1), 1);
+        x.bore(3, 9);
+        x.bore(0, 9);
+        check.due("both high ones can, ahead of the others", x.can(1), 1);
+        x.bore(0, 0);
+        x.bore(3, 0);
+        Check.read(x, "y101;f041");
+        x.begin(4);
+        check.due("one, behind an older TEXT of six", x.can(1), 1);
+        check.due("START of one", x.start(2), 8);
     }
 
     private static void startThatIsNone() {

@@ -19,7 +19,6 @@ public final class RefusalEdgeTest {
     }
 
     public static void main(String[] args) {
-        constants();
         numberOfSheet();
         numberOfTap();
         numberOfDay();
@@ -116,17 +115,7 @@ public final class RefusalEdgeTest {
         fails(what + ", without a YARD", RefusalEdgeTest::bare, call, fault);
     }
 
-    // ---- the constants, and each refusal
-
-    private static void constants() {
-        check.says("UNKNOWN = -1, OUTSIDE = -2, STATE = -3, FULL = -4, NONE = -9; LOST = Long.MIN_VALUE");
-        check.due("UNKNOWN", BarrelTaps.UNKNOWN, -1);
-        check.due("OUTSIDE", BarrelTaps.OUTSIDE, -2);
-        check.due("STATE", BarrelTaps.STATE, -3);
-        check.due("FULL", BarrelTaps.FULL, -4);
-        check.due("NONE", BarrelTaps.NONE, -9);
-        check.due("LOST", BarrelTaps.LOST, Long.MIN_VALUE);
-    }
+    // ---- each refusal
 
     private static void numberOfSheet() {
         check.says("UNKNOWN (there is no such SHEET); SHEETS 0 .. 3");
