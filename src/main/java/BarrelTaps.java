@@ -291,7 +291,7 @@ public final class BarrelTaps {
             return LOST;
         }
         days.startWith(yard.firstWater, yard.rule);
-        return inLeastTerms(dryRows(f, n, a, b, 0), 1 << n, which);
+        return inLeastTerms(dryRows(days, f, n, a, b, 0), 1 << n, which);
     }
 
     public int mark(int day, int v) {
@@ -552,14 +552,14 @@ public final class BarrelTaps {
     }
 
     /** Of all rows of rains a, b on days day .. n less 1, those by which one is dry that was not dry before. */
-    private int dryRows(int f, int n, int a, int b, int day) {
+    private static int dryRows(Days days, int f, int n, int a, int b, int day) {
         if (day >= n) {
             return 0;
         }
         int dry = 0;
         for (int sort = 0; sort < 2; sort++) {
             days.passDay(day, sort == 0 ? a : b);
-            dry += days.isDry(f, day) ? 1 << (n - 1 - day) : dryRows(f, n, a, b, day + 1);
+            dry += days.isDry(f, day) ? 1 << (n - 1 - day) : dryRows(days, f, n, a, b, day + 1);
         }
         return dry;
     }

@@ -209,6 +209,9 @@ public final class NeedsEdgeTest {
         best("0", yard("y991;f041;f821", 10), 1, 0, 2);
         best("1", yard("y201;o581;f031;f031", 12), 1, 1, 2);
         best("2", yard("y201;o542;o092", 14), 1, 2, 2);
+        BarrelTaps sparing = yard("y991;o041;o041", 16);
+        check.due("both could, by just their NEEDS", sparing.can(2), 1);
+        best("but there is no such LAW", sparing, 2, 0, 0);
     }
 
     private static void bestOnTenDays() {
