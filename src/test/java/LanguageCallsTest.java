@@ -54,9 +54,26 @@ public final class LanguageCallsTest {
                 test.new Reader(Trees.instance(task)).scan(unit, null);
             }
         }
+        test.names();
         test.recursion();
         test.depth();
         check.end();
+    }
+
+    /** No other method bears the name of a public one, in the classes inside neither. */
+    private void names() {
+        Set<String> open = new LinkedHashSet<>();
+        for (ExecutableElement m : callsOf.keySet()) {
+            if (m.getModifiers().contains(Modifier.PUBLIC) && m.getKind() == ElementKind.METHOD) {
+                check.holds(m + " is public", m.getEnclosingElement().toString().equals("BarrelTaps"));
+                open.add(m.getSimpleName().toString());
+            }
+        }
+        check.due("public methods", open.size(), 33);
+        for (ExecutableElement m : callsOf.keySet()) {
+            check.holds(m + " bears the name of a public one",
+                m.getModifiers().contains(Modifier.PUBLIC) || !open.contains(m.getSimpleName().toString()));
+        }
     }
 
     /** A method may call itself if it is private and static; none calls itself by way of another. */
